@@ -268,21 +268,21 @@ public final class PromiseTests {
     }
 
     private static void about() {
-        OvensAbove x = of("K4P000919P010121P120999P300995");
+        OvensAbove x = of("K4P000919P010121P120999P300995P120999");
         x.quarter(1);
         x.quarter(1);
         x.cone(0, 1, 1, 1, true);
         x.cone(0, 1, 1, 1, true);
         due(6, "kilns", x.about(0), 4);
-        due(6, "pots", x.about(1), 4);
+        due(6, "pots", x.about(1), 5);
         due(6, "quarters", x.about(2), 2);
         due(6, "heat", x.about(3), 40);
         due(6, "out", x.about(4), 0);
         due(6, "READY", x.about(5), 1);
         due(6, "CRACKED", x.about(6), 1);
-        due(6, "BLED", x.about(7), 1);
+        due(6, "BLED", x.about(7), 2);
         due(6, "cones", x.about(8), 2);
-        due(6, "bytes", x.about(9), 30);
+        due(6, "bytes", x.about(9), 37);
         due(6, "about(-1)", x.about(-1), BAD);
         due(6, "about(10)", x.about(10), BAD);
         due(6, "about(MIN)", x.about(Integer.MIN_VALUE), BAD);
@@ -719,6 +719,19 @@ public final class PromiseTests {
         // Salt and raw: raw may not be above salt when heat goes up.
         x = of("K2P014619P120119");
         due(18, "both: raw is READY ahead of what goes up", x.floors(3, 2), 2);
+        // Salt is READY below alone, raw above alone, where it is bled on; in three salt may be above.
+        x = of("K2P014619P122319");
+        due(18, "one of them", x.floors(2, 2), 1);
+        due(19, "the first by pot 0", x.floorAt(0, 2, 2), 0);
+        due(19, "the first by pot 1", x.floorAt(1, 2, 2), 0);
+        due(18, "both above", x.floors(3, 2), 2);
+        due(19, "salt above", x.floorAt(0, 3, 2), 1);
+        due(19, "raw above", x.floorAt(1, 3, 2), 1);
+        // The same with raw first: where salt is below, raw is told to be where it is not bled on.
+        x = of("K2P022319P114619");
+        due(18, "one of them", x.floors(2, 2), 1);
+        due(19, "raw below", x.floorAt(0, 2, 2), 0);
+        due(19, "salt below", x.floorAt(1, 2, 2), 0);
         x = of("K2P010919P120999");
         due(18, "one", x.floors(5, 1), 1);
     }
