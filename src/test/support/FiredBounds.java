@@ -587,6 +587,16 @@ final class FiredBounds extends Bounds {
                 fire(x, 9).undo();
             });
         });
+        test("twelve of fourteen, with five KILNS and five POTS", () -> same(x -> {
+            retell(x, LONGEST);
+            fire(x, 4, 1);
+        }, x -> {
+            retell(x, LONGEST);
+            fire(x, 4, 1, 9, 0, 9, 3, 9, 0, 9, 2, 9, 0, 9, 1);
+            for (int i = 0; i < 12; i++) {
+                x.undo();
+            }
+        }, Looks.ROW));
         test("HEAT of each KILN", () -> {
             OvensAbove x = fire("K5", 9, 1, 2, 3, 4);
             int[] was = new int[5];

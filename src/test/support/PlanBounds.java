@@ -187,12 +187,29 @@ final class PlanBounds extends Bounds {
         test("five in one KILN", () -> is(of("K2" + "P000019".repeat(5)).floors(1, 0), 5));
         test("five, each in its own KILN of five", () -> is(stairs(EACH_ITS_KILN).floors(9, 1), 5));
         test("five, the other way round", () -> is(stairs(EACH_TURNED).floors(9, 1), 5));
+        test("five, all in the last KILN of five: the last of all floors", () -> {
+            is(stairs("P000042".repeat(5)).floors(9, 1), 5);
+            is(stairs("P000042".repeat(5)).floors(4, 1), 5);
+            is(stairs("P000042".repeat(5)).floors(3, 1), 0);
+        });
         test("two KILNS: not all can be", () -> is(of("K2P000019P002219P004419").floors(1, 1), 2));
         test("all done ones are counted that are READY", () -> is(fire("K2P000919P000991", 1).floors(1, 1), 1));
         test("no KILN makes a CRACKED one READY", () -> is(fire("K2P000911", 1).floors(9, 0), 0));
         test("no KILN makes a BLED one READY", () -> is(fire("K2P010999P120999", 1, 0).floors(1, 0), 0));
         test("where it is now cracks it, another KILN does not", () -> is(of("K2P000911").floors(1, 1), 1));
-        test("SALT and RAW for which there is room", () -> is(of("K2P010999P120929").floors(2, 1), 1));
+        test("plain over SALT", () -> is(of("K2P012219P000019").floors(1, 1), 2));
+        test("RAW over SALT, READY ahead of what goes up", () -> is(of("K2P012219P020019").floors(1, 1), 2));
+        test("RAW over SALT, BLED by what goes up", () -> is(of("K2P012219P020129").floors(2, 1), 1));
+        test("RAW over SALT that are not the lowest", () -> is(saltInTheMiddle().floors(3, 1), 1));
+        test("RAW over done SALT, as the SHUTTER is now", () -> {
+            OvensAbove x = fire("K2S000P010919P020019", 1);
+            is(x.floors(1, 0), 2);
+            x.open(0, 5);
+            is(x.floors(1, 0), 1);
+            x.open(0, 0);
+            is(x.floors(1, 0), 2);
+        });
+        test("RAW beside SALT", () -> is(of("K2P010999P120929").floors(2, 1), 1));
         says("BEST FLOORS for n QUARTERS with w WOOD each");
         test("n 1, the least", () -> is(of("K2P000029P000019").floors(1, 0), 1));
         test("n 9, the most", () -> is(of("K2P000099").floors(9, 0), 1));
@@ -215,6 +232,13 @@ final class PlanBounds extends Bounds {
         test("w the greatest int", () -> refused(BAD, x -> x.floors(1, MAX)));
     }
 
+    /** With 1 wood SALT is READY in KILN 1 alone, by 30, and RAW in KILN 2 alone, by 10 that went up. */
+    private static OvensAbove saltInTheMiddle() {
+        OvensAbove x = of("K3S200P013319P021119");
+        x.open(0, 10);
+        return x;
+    }
+
     // ---- promise 19
 
     private static void floorsAre(OvensAbove x, int n, int w, int... due) {
@@ -228,6 +252,11 @@ final class PlanBounds extends Bounds {
         says("The KILN of a POT in them.");
         test("KILNS 0 .. 4 for POTS 0 .. 4", () -> floorsAre(stairs(EACH_ITS_KILN), 9, 1, 0, 1, 2, 3, 4));
         test("KILNS 4 .. 0 for POTS 0 .. 4", () -> floorsAre(stairs(EACH_TURNED), 9, 1, 4, 3, 2, 1, 0));
+        test("KILN 4 for all of five", () -> floorsAre(stairs("P000042".repeat(5)), 9, 1, 4, 4, 4, 4, 4));
+        test("plain over SALT in the last KILNS", () -> floorsAre(stairs("P010032P000042"), 9, 1, 3, 4));
+        test("plain over SALT in the first KILNS", () -> floorsAre(stairs("P012292P000012"), 9, 1, 0, 1));
+        test("RAW over SALT, READY ahead of what goes up", () -> floorsAre(of("K2P012219P020019"), 1, 1, 0, 1));
+        test("RAW over SALT that are not the lowest", () -> floorsAre(saltInTheMiddle(), 3, 1, 0, 2));
         test("n 1, the least", () -> floorsAre(of("K2P000019P002219"), 1, 1, 1, 0));
         test("n 9, the most", () -> floorsAre(of("K2S000P000099P002292"), 9, 1, 1, 0));
         test("w 0, the least", () -> floorsAre(of("K2P100019"), 1, 0, 0));
@@ -305,6 +334,7 @@ final class PlanBounds extends Bounds {
         test("a READY one wants none", () -> is(fire("K2P000919", 1).openFor(0, 0, 1, 9), 0));
         test("a CRACKED one", () -> is(in(MOST).openFor(0, 3, 9, 0), NONE));
         test("a BLED one", () -> is(in(MOST).openFor(0, 2, 9, 0), NONE));
+        test("POT 4 of five", () -> is(of("K2P000999P000999P000999P000999P103919").openFor(0, 4, 2, 5), 3));
         test("n 1, the least", () -> is(of("K2P008819").openFor(0, 0, 1, 4), 0));
         test("n 9, the most", () -> is(of("K2P000099").openFor(1, 0, 9, 0), 0));
         test("n 8 are not enough for t 9", () -> is(of("K2P000099").openFor(1, 0, 8, 0), NONE));

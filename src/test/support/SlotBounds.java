@@ -162,6 +162,20 @@ final class SlotBounds extends Bounds {
     private static void againIs() {
         promise(27);
         says("keep HEAT, SHUTTERS, DAMPERS, POTS (where they are, how they are), what went out");
+        test("all of five KILNS and five POTS", () -> same(x -> {
+            MOST.accept(x);
+            x.keep(1);
+        }, x -> {
+            MOST.accept(x);
+            x.keep(1);
+            for (int i = 0; i < 5; i++) {
+                x.open(i, 0);
+                x.damp(i, 2 * i + 1);
+                x.put(i, 0);
+            }
+            fire(x, 9, 8, 7, 6);
+            x.again(1);
+        }, Looks.ROW));
         test("HEAT of each KILN", () -> {
             OvensAbove x = changed();
             is(x.kiln(0, 0), 45);
